@@ -14,6 +14,7 @@ public final class Wagonplay {
     private static final int MOST_WHEELS = 9;
     private static final int MOST_LETTERS = 10;
     private static final int MOST_ARRANGED = 4;
+    private static final int MOST_ORDERS = 24;
     private static final int MOST_ASKED = 1000;
     private static final int ALL_LEARNT = 100;
     private static final int LAST_YEAR = 99;
@@ -33,6 +34,7 @@ public final class Wagonplay {
     private final int[] housePaid = new int[HOUSES];
     private final Plan today = new Plan();
     private final Plan trial = new Plan();
+    private final int[] triedOrder = new int[MOST_ARRANGED];
     private final int[] bestOrder = new int[MOST_ARRANGED];
     private int bestEnd;
     private int guildCount;
@@ -281,7 +283,7 @@ public final class Wagonplay {
         if (dayPlayed) {
             throw new IllegalStateException("a day was played in this year");
         }
-        planByOrder(today);
+        plan(today, order, guildCount);
         dayPlayed = true;
         for (int row = 0; row < today.count; row++) {
             settle(today.shows[row]);
@@ -321,7 +323,7 @@ public final class Wagonplay {
 
     public int foresee() throws IllegalStateException {
         needStations();
-        planByOrder(trial);
+        plan(trial, order, guildCount);
         return trial.latestEnd();
     }
 
@@ -532,10 +534,10 @@ public final class Wagonplay {
         return changes;
     }
 
-    private void planByOrder(Plan plan) {
+    private void plan(Plan plan, int[] by, int length) {
         plan.start(ground);
-        for (int place = 0; place < guildCount; place++) {
-            int guild = order[place];
+        for (int place = 0; place < length; place++) {
+            int guild = by[place];
             if (takesPart(guild)) {
                 plan.append(guild, guilds[guild], ground);
             }
@@ -544,41 +546,56 @@ public final class Wagonplay {
 
     /** Answers how many guilds play; their best order stands in bestOrder then, its end in bestEnd. */
     private int findBestOrder() {
-        int playing = countPlaying();
+        int playing = 0;
+        for (int guild = 0; guild < guildCount && playing < MOST_ARRANGED; guild++) {
+            if (takesPart(guild)) {
+                triedOrder[playing] = guild;
+                playing++;
+            }
+        }
         bestEnd = Integer.MAX_VALUE;
-        trial.start(ground);
-        tryAllFrom(0, playing);
+        boolean more = true;
+        for (int tried = 0; more && tried < MOST_ORDERS; tried++) {
+            plan(trial, triedOrder, playing);
+            keepIfSooner(playing);
+            more = turnToNext(triedOrder, playing);
+        }
         return playing;
     }
 
-    /** Guilds are tried by rising numbers, so that the first order of several best ones is the one kept. */
-    private void tryAllFrom(int depth, int playing) {
-        if (depth >= playing || depth >= MOST_ARRANGED) {
-            keepIfSooner();
-            return;
-        }
-        for (int guild = 0; guild < guildCount; guild++) {
-            if (takesPart(guild) && trial.rowOf(guild) == NONE) {
-                tryNext(depth, playing, guild);
-            }
-        }
-    }
-
-    private void tryNext(int depth, int playing, int guild) {
-        trial.append(guild, guilds[guild], ground);
-        tryAllFrom(depth + 1, playing);
-        trial.takeLastAway();
-    }
-
-    private void keepIfSooner() {
+    /** Of several best orders the first one that is tried stays. */
+    private void keepIfSooner(int playing) {
         int end = trial.latestEnd();
-        if (end >= bestEnd) {
-            return;
+        if (end < bestEnd) {
+            bestEnd = end;
+            System.arraycopy(triedOrder, 0, bestOrder, 0, playing);
         }
-        bestEnd = end;
-        for (int row = 0; row < trial.count && row < MOST_ARRANGED; row++) {
-            bestOrder[row] = trial.shows[row].guild;
+    }
+
+    /** Makes an order the next one by its numbers place by place; answers false if it is the last. */
+    private static boolean turnToNext(int[] numbers, int length) {
+        int left = length - 2;
+        while (left >= 0 && numbers[left] > numbers[left + 1]) {
+            left--;
         }
+        if (left < 0) {
+            return false;
+        }
+        int right = length - 1;
+        while (right > left && numbers[right] < numbers[left]) {
+            right--;
+        }
+        swap(numbers, left, right);
+        for (int i = left + 1, j = length - 1; i < j; i++, j--) {
+            swap(numbers, i, j);
+        }
+        return true;
+    }
+
+    private static void swap(int[] numbers, int one, int other) {
+        int kept = numbers[one];
+        numbers[one] = numbers[other];
+        numbers[other] = kept;
     }
 
     private void charge(Guild guild, int amount) {
@@ -586,7 +603,7 @@ public final class Wagonplay {
         townMoney += amount;
     }
 
-    /** The fine for added lines is due for what the book had not ahead of the day, so the scribes write after it. */
+    /** The fine is for lines that the book had not ahead of the day, so the scribes write behind it. */
     private void settle(Show show) {
         Guild guild = guilds[show.guild];
         int fine = 0;
@@ -790,11 +807,8 @@ public final class Wagonplay {
         }
 
         int endOfPlay(int begin, int minutesOfPlay) {
-            if (isTooDark(begin)) {
-                return begin;
-            }
             int end = begin + minutesOfPlay;
-            return torches ? end : Math.min(end, DARK);
+            return torches ? end : Math.max(begin, Math.min(end, DARK));
         }
     }
 
@@ -912,12 +926,6 @@ public final class Wagonplay {
                 playAt(s, show, guild, ground);
             }
             count++;
-        }
-
-        void takeLastAway() {
-            if (count > 0) {
-                count--;
-            }
         }
 
         int rowOf(int guild) {

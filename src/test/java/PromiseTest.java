@@ -801,17 +801,23 @@ public final class PromiseTest {
         x.day();
         is("dark: sound", x.isSound(), true);
         int notPlayed = 0;
+        int lateNotPlayed = 0;
         for (int i = 0; i < 8; i++) {
+            int fine = 0;
             for (int s = 0; s < 6; s++) {
+                fine += x.at(i, s, 'g') > 15 ? 3 : 0;
                 if (x.how(i, s) == 'd') {
+                    lateNotPlayed += x.at(i, s, 'g') > 15 ? 1 : 0;
                     notPlayed++;
                     is("dark: no minutes", x.at(i, s, 'e'), x.at(i, s, 'b'));
                     is("dark: no lines", x.at(i, s, 'l'), 0);
                     is("dark: begin", x.at(i, s, 'b') >= 1260, true);
                 }
             }
+            is("dark: fines", x.of(i, 'f'), fine);
         }
         is("dark: some not played", notPlayed > 20, true);
+        is("dark: some of them late", lateNotPlayed > 0, true);
     }
 
     /** Promise 23, plays in the dark: the last station moves through the minutes round 1260. */
@@ -819,7 +825,7 @@ public final class PromiseTest {
         String seen = "";
         for (int minutes = 1; minutes <= 20; minutes++) {
             for (int wet = 0; wet < 4; wet++) {
-                for (int added = 10; added <= 90; added += 10) {
+                for (int added = 10; added <= 90; added += 20) {
                     seen = seen + darkAt(minutes, wet, added, false);
                     seen = seen + darkAt(minutes, wet, added, true);
                 }
@@ -827,8 +833,73 @@ public final class PromiseTest {
         }
         is("dark: one ends at 1260", seen.indexOf('=') >= 0, true);
         is("dark: one would end at 1261", seen.indexOf('>') >= 0, true);
-        is("dark: one begins at 1259", seen.indexOf('<') >= 0, true);
-        is("dark: one would begin at 1260", seen.indexOf('d') >= 0, true);
+        darkBegin(0, false, 1258, 'c', 1260, 18);
+        darkBegin(1, false, 1259, 'c', 1260, 9);
+        darkBegin(2, false, 1260, 'd', 1260, 0);
+        darkBegin(3, false, 1261, 'd', 1261, 0);
+        darkBegin(2, true, 1260, 'w', 1326, 600);
+        darkAmidst(false);
+        darkAmidst(true);
+        Wagonplay x = onePlayer(2, 0);
+        x.setTorches(5, true);
+        x.day();
+        is("dark: lines with torches", x.at(1, 5, 'l'), 600);
+        x.year();
+        x.setTorches(5, false);
+        x.day();
+        is("dark: no lines of the year before", x.how(1, 5), 'd');
+        is("dark: no lines of the year before", x.at(1, 5, 'l'), 0);
+    }
+
+    /** Guild 2 plays 8 minutes behind guild 1, which would begin at 1260 at station 5, not played or with torches. */
+    private static void darkAmidst(boolean torchesAtLast) {
+        Wagonplay x = onePlayer(2, 1);
+        x.setTorches(4, !torchesAtLast);
+        x.setTorches(5, torchesAtLast);
+        x.day();
+        is("dark amidst", x.at(1, 4, 'e'), 1255);
+        is("dark amidst", x.at(1, 5, 'b'), 1260);
+        is("dark amidst", x.how(1, 5), torchesAtLast ? 'w' : 'd');
+        is("dark amidst: nobody is on in a play not played", x.at(2, 4, 'b'), 1257);
+        is("dark amidst: nobody is on behind the dark", x.at(2, 4, 'e'), torchesAtLast ? 1260 : 1265);
+        is("dark amidst: lines", x.at(2, 4, 'l'), torchesAtLast ? 20 * 3 / 8 : 20);
+        is("dark amidst: sound", x.isSound(), true);
+    }
+
+    /** Two guilds with one player play all 6 stations one behind the other, 66 minutes each; short ones follow. */
+    private static Wagonplay onePlayer(int hill, int shortOnes) {
+        Wagonplay x = new Wagonplay();
+        for (int i = 0; i < 2; i++) {
+            x.addGuild(0, 400, 1);
+            x.add(i, 99);
+            x.add(i, 99);
+            x.add(i, 2);
+            x.cast(i, 0, 19);
+        }
+        x.addStation(20, hill, 0);
+        for (int s = 1; s < 5; s++) {
+            x.addStation(20, 9, 0);
+        }
+        x.addStation(5, 0, 0);
+        for (int i = 2; i < 2 + shortOnes; i++) {
+            x.addGuild(0, 20, 1);
+            x.cast(i, 0, 19);
+        }
+        return x;
+    }
+
+    private static void darkBegin(int hill, boolean torches, int begin, char how, int end, int said) {
+        Wagonplay x = onePlayer(hill, 0);
+        x.setTorches(5, torches);
+        x.day();
+        is("dark begin", x.at(1, 0, 'b'), x.at(0, 5, 'e'));
+        is("dark begin", x.at(1, 5, 'b'), begin);
+        is("dark begin", x.how(1, 5), how);
+        is("dark begin", x.at(1, 5, 'e'), end);
+        is("dark begin", x.at(1, 5, 'l'), said);
+        is("dark begin", x.end(), end);
+        is("dark begin", x.wholeShare(), (how == 'w' ? 12f : 11f) / 12f);
+        is("dark begin", x.isSound(), true);
     }
 
     /** Six guilds of like lines and 8 parts, no player shared; answers which edges of the dark were met. */
@@ -883,7 +954,7 @@ public final class PromiseTest {
             return "";
         }
         int would = begin + minutes;
-        return would == 1260 ? "=" : would == 1261 ? ">" : begin == 1259 ? "<" : begin == 1260 ? "d" : "";
+        return would == 1260 ? "=" : would == 1261 ? ">" : "";
     }
 
     /** Behind midnight it stays dark, and the rain of the hours begins anew. */
@@ -978,9 +1049,27 @@ public final class PromiseTest {
         x.year();
         x.day();
         is("late: fines of all days", x.of(1, 'f'), 6);
+        lateByMinutes(7, 15, 0);
+        lateByMinutes(8, 16, 3);
         for (int hands = 0; hands <= 9; hands++) {
             lateByHands(hands);
         }
+    }
+
+    /** Guild 1 comes 3 behind guild 0 to the first station, and as told by the hill to the second one. */
+    private static void lateByMinutes(int hill, int gap, int fine) {
+        Wagonplay x = new Wagonplay();
+        x.addGuild(0, 20, 1);
+        x.addGuild(0, 20, 1);
+        x.addStation(5, 9, 9);
+        x.addStation(5, hill, 9);
+        x.wagon(0, 1, 9);
+        x.wagon(1, 9, 9);
+        x.day();
+        is("late by minutes: first", x.at(1, 0, 'g'), 3);
+        is("late by minutes", x.at(1, 1, 'g'), gap);
+        is("late by minutes: fine", x.of(1, 'f'), fine);
+        is("late by minutes: wealth", x.of(1, 'm'), -2 - fine);
     }
 
     private static void lateByHands(int hands) {
@@ -1018,18 +1107,26 @@ public final class PromiseTest {
         is("scribe: none, nothing new", x.of(0, 'a'), 30);
         x.year();
         x.setScribe(0, true);
+        x.add(1, 1);
+        x.day();
+        is("scribe: fine at one", x.of(0, 'f'), 30);
+        is("scribe: fine of the other", x.of(1, 'f'), 1);
+        is("scribe: the first station's scribe writes", x.known(0), 130);
+        x.year();
+        x.add(0, 15);
+        x.lose(0, 2);
         x.setScribe(2, true);
         x.day();
         is("scribe: fine at each", x.of(0, 'f'), 60);
         is("scribe: new lines in the book", x.of(0, 'a'), 0);
-        is("scribe: leaves found", x.known(0), 130);
+        is("scribe: leaves found", x.known(0), 145);
         is("scribe: leaves", x.leaves(0), 4);
-        is("scribe: the other is not fined", x.of(1, 'f'), 0);
+        is("scribe: the other is not fined again", x.of(1, 'f'), 1);
         x.year();
         x.lose(0, 3);
         x.day();
         is("scribe: no fine for lost leaves", x.of(0, 'f'), 60);
-        is("scribe: leaf found", x.known(0), 130);
+        is("scribe: leaf found", x.known(0), 145);
         is("scribe: sound", x.isSound(), true);
         cutScribe();
     }
@@ -1473,6 +1570,11 @@ public final class PromiseTest {
         x.strike(true);
         x.day();
         Check.fails("share of none", ARITHMETIC, x::wholeShare);
+        Wagonplay z = new Wagonplay();
+        z.addGuild(0, 20, 1);
+        z.addStation(5, 0, 0);
+        z.day();
+        is("share of one", z.wholeShare(), 1f);
         Wagonplay y = new Wagonplay();
         for (int i = 0; i < 7; i++) {
             y.addGuild(0, 400, 8);
